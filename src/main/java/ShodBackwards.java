@@ -998,7 +998,7 @@ public final class ShodBackwards {
                     continue;
                 }
                 int shown = shownBy(kind, way, step);
-                if (shown >= 0 && keeps(at) > 0 && hour <= h + step + keeps(at)) {
+                if (shown >= 0 && hour <= h + step + keeps(at)) {
                     if (found < 0 || !isPrint(found, at, shown, depth, h + step)) {
                         return false;
                     }
@@ -1266,8 +1266,10 @@ public final class ShodBackwards {
             }
             int spoken = BODIES[holder * VOICES + voice];
             begin(spoken);
-            int above = ABOVE[holder];
-            int deeper = depth + 1;
+            return workOut(spoken, ABOVE[holder], x, depth + 1);
+        }
+
+        private int workOut(int spoken, int above, int x, int deeper) {
             switch (spoken) {
                 case 10:
                     return x + k;

@@ -181,6 +181,7 @@ public final class AheadTest {
         }
         oneOfTwoKinds();
         lameAndSledge();
+        throughTheFirstCell();
     }
 
     /** With no LOAD and m 0 the LAME one sinks as the RIDER does; only step 0 tells them apart. */
@@ -206,6 +207,14 @@ public final class AheadTest {
         x.hours(3);
         Due.is("22 lame, west at the border", x.kinds(1, 0, 2), 4);
         Due.is("22 bits of both", x.kinds(1, 0, 2) | x.kinds(0, 0, 0), 36);
+    }
+
+    private static void throughTheFirstCell() {
+        ShodBackwards x = new ShodBackwards();
+        x.rider(4, 7);
+        Due.ride(x, 0, "nwws");
+        x.hours(4);
+        Due.is("22 by CELL 0", x.kinds(0, 7, 0), 1);
     }
 
     private static void kindsOfFadedPrints() {
@@ -236,6 +245,14 @@ public final class AheadTest {
             Due.is("23 rider " + bad, x.leastFound(bad, 1), Due.BEYOND);
         }
         Due.is("23 of several the least", x.leastFound(0, 12), 0);
+        // By TURNED it ends in 13, 3 off from 16; by TOLD it would end in 1, where the other one leads from 8.
+        x.set(0, 2, 14);
+        x.set(0, 1, 9);
+        Due.ride(x, 0, "ee");
+        Due.text(x, 0, "0");
+        x.rider(0, 8);
+        Due.ride(x, 1, "nw");
+        Due.is("23 told ones aren't tried", x.leastFound(0, 2), 1);
     }
 
     private static void leastFoundByHand() {
@@ -276,6 +293,7 @@ public final class AheadTest {
         Due.ride(x, 1, "");
         Due.is("24 to the west", x.decoy(0, 2, 14), 1);
         Due.is("24 from 15 back to 13", x.decoy(0, 2, 15), 2);
+        Due.is("24 by one hour", x.decoy(0, 1, 14), 1);
         Due.is("24 nobody was there", x.decoy(0, 2, 20), 0);
         Due.is("24 one who stays", x.decoy(1, 2, 14), 0);
         x.hours(2);

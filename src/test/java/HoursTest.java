@@ -11,8 +11,11 @@ public final class HoursTest {
         shoes();
         depths();
         border();
+        allCells();
         grounds();
         fortyPrints();
+        allForty();
+        streamAtForty();
         hours();
         lastHour();
         draws();
@@ -65,6 +68,7 @@ public final class HoursTest {
         Due.is("13 w+m by 4", shownBy("", 7, 3), 2);
         Due.is("13 7", shownBy("7", 0, 3), 3);
         Due.is("13 8", shownBy("8", 0, 3), 0);
+        Due.is("13 0", shownBy("0", 0, 3), 0);
         Due.is("13 -1", shownBy("0-1", 0, 3), -1);
         Due.is("13 -4", shownBy("0-4", 0, 3), -1);
         Due.is("13 m-w", shownBy("m-w", 2, 1), 1);
@@ -106,6 +110,25 @@ public final class HoursTest {
         }
     }
 
+    private static void allCells() {
+        for (int cell = 0; cell < 36; cell++) {
+            int row = cell / 6;
+            int column = cell % 6;
+            int[] next = {row > 0 ? cell - 6 : cell, column < 5 ? cell + 1 : cell, row < 5 ? cell + 6 : cell,
+                column > 0 ? cell - 1 : cell};
+            for (int way = 0; way < 4; way++) {
+                ShodBackwards x = new ShodBackwards();
+                x.rider(0, cell);
+                x.way(0, way);
+                Due.is("13 print in " + cell, x.hours(1), next[way] == cell ? 0 : 1);
+                Due.is("13 from " + cell + " by " + way, x.riderIs(0, 2), next[way]);
+                Due.is("18 from " + cell + " by " + way, x.follow(cell, 0, 40, 0), next[way]);
+                Due.is("17 of the only one", x.cellIs(cell, 2), next[way] == cell ? -1 : way);
+                Due.is("17 doubt of the only one", x.cellIs(cell, 4), next[way] == cell ? 99 : 1);
+            }
+        }
+    }
+
     private static void grounds() {
         ShodBackwards x = new ShodBackwards();
         x.ground(1, 3);
@@ -119,6 +142,53 @@ public final class HoursTest {
         Due.is("13 first", x.print(0, 0), 0);
         Due.is("13 last", x.print(1, 0), 3);
         Due.is("13 through", x.riderIs(0, 2), 4);
+    }
+
+    /** In a STREAM none is left, so none has to go for it. */
+    private static void streamAtForty() {
+        ShodBackwards x = new ShodBackwards();
+        fill(x);
+        x.halt(0);
+        x.set(0, 2, 35);
+        x.ground(35, 3);
+        x.way(0, 3);
+        Due.is("13 still 40", x.hours(1), 40);
+        Due.is("13 still the oldest", x.print(0, 4), 0);
+    }
+
+    /** Five RIDERS leave 40 PRINTS in 8 HOURS; their RIDES are over then. */
+    private static void fill(ShodBackwards x) {
+        x.frost(9);
+        for (int i = 0; i < 5; i++) {
+            x.rider(0, 6 * i);
+            Due.ride(x, i, "eeewwwes");
+        }
+        Due.is("13 forty", x.hours(8), 40);
+    }
+
+    private static void allForty() {
+        ShodBackwards x = new ShodBackwards();
+        fill(x);
+        int[] columns = {0, 1, 2, 3, 2, 1, 0, 1};
+        int[] shown = {1, 1, 1, 3, 3, 3, 1, 2};
+        for (int k = 0; k < 2; k++) {
+            // The second time the first two have gone for two new ones.
+            for (int i = 0; i < 40 - 2 * k; i++) {
+                int left = i + 2 * k;
+                int[] want = {6 * (left % 5) + columns[left / 5], shown[left / 5], 1, left / 5, left % 5};
+                for (int what = 0; what < 5; what++) {
+                    Due.is("16 print " + i + ", " + what, x.print(i, what), want[what]);
+                }
+            }
+            for (int rider = 0; rider < 5; rider++) {
+                Due.is("19 prints of " + rider, x.then(0, rider, 7), k == 0 ? 8 : rider < 2 ? 7 : rider > 2 ? 9 : 8);
+            }
+            Due.is("20 doubt ahead", x.thenCell(0, 1, 4), k + 1);
+            for (int rider = 3; rider < 5 && k == 0; rider++) {
+                Due.ride(x, rider, "n");
+            }
+            x.hours(1);
+        }
     }
 
     private static void fortyPrints() {
@@ -175,6 +245,10 @@ public final class HoursTest {
         Due.is("14 beyond first", x.draws(0), Due.BEYOND);
         Due.is("14 no draw", x.count(7), 1);
         Due.is("13 unchanged", x.count(1), 9984);
+        Due.is("33 image", x.image(), 1);
+        Due.is("14 to the last", x.draws(15), 0);
+        Due.is("14 hour", x.count(1), 9999);
+        Due.is("34 back", x.restore(), 9984);
         Due.is("14 last but one", x.draws(14), 0);
         Due.is("13 last", x.hours(1), 0);
         Due.is("13 hour", x.count(1), 9999);
@@ -274,6 +348,11 @@ public final class HoursTest {
             Due.is("17 " + what, x.cellIs(8, what), want[what]);
         }
         Due.is("17 another", x.cellIs(9, 3), 10);
+        x.hours(24);
+        int[] faded = {1, 0, -1, 0, 99};
+        for (int what = 0; what < 5; what++) {
+            Due.is("17 faded " + what, x.cellIs(8, what), faded[what]);
+        }
         Due.is("17 cell 36", x.cellIs(36, 0), Due.BEYOND);
         Due.is("17 what 5", x.cellIs(0, 5), Due.BEYOND);
         for (int bad : new int[] {Integer.MIN_VALUE, -1, Integer.MAX_VALUE}) {

@@ -3,6 +3,7 @@ public final class ImagesTest {
     public static void main(String[] args) {
         image();
         keepsAll();
+        keepsRows();
         keepsNot();
         tell();
         check();
@@ -85,6 +86,26 @@ public final class ImagesTest {
         Due.is("34 waits again", x.count(5), 1);
         x.halt(0);
         Due.is("34 so it is", x.check(), 0);
+    }
+
+    /** THE TAPE's bytes and the numbers that wait, not only how many there are. */
+    private static void keepsRows() {
+        ShodBackwards x = new ShodBackwards();
+        Due.feed(x, "8*4");
+        x.tell(0);
+        x.tell(0);
+        x.tell(7);
+        x.image();
+        x.text(1);
+        x.check();
+        Due.feed(x, "aaaaaaaa");
+        x.tell(7);
+        x.tell(7);
+        x.tell(7);
+        x.restore();
+        Due.is("34 bytes", x.text(1), 1);
+        Due.is("34 bytes", x.cellIs(0, 4), 32);
+        Due.is("34 numbers", x.check(), 3);
     }
 
     private static void keepsNot() {

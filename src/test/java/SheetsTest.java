@@ -43,8 +43,13 @@ public final class SheetsTest {
             Due.is("28 number 24", x.put(0, 24, 9), Due.BEYOND);
             Due.is("28 unchanged", x.sheet(0, b, -1), Due.STATE);
             Due.is("28 number 23", at(x, 0, b, 23), 9);
+            for (int i = 0; i < 24; i++) {
+                x.put(0, i, 9);
+            }
             Due.is("28 anew", x.sheet(0, b, 24), 1);
-            Due.is("28 all 0", at(x, 0, b, 23), 0);
+            for (int i = 0; i < 24; i++) {
+                Due.is("28 all 0", at(x, 0, b, i), 0);
+            }
             Due.is("28 missing again", x.sheet(0, 0, 5), 1);
             Due.is("28 missing", x.put(0, 0, 0), Due.NONE);
         }

@@ -95,6 +95,9 @@ public final class TextsTest {
         worth("1+2<2+2", 1);
         worth("5|0", 1);
         worth("0|0", 0);
+        worth("(0|7)", 1);
+        worth("!(3&0|0)", 1);
+        worth("((1|0)+(0|1))*2", 4);
         worth("0|7", 1);
         worth("5&6", 1);
         worth("5&0", 0);
@@ -166,6 +169,21 @@ public final class TextsTest {
         fault("1==1", 2);
         fault("1!=1", 1);
         fault("1+".repeat(30), 60);
+        fault("(" + "1+".repeat(29) + "1", 60);
+        fault("1+".repeat(29) + "1!", 59);
+        faultsBehindOldBytes();
+    }
+
+    /** What THE TAPE held ahead is no part of a TEXT. */
+    private static void faultsBehindOldBytes() {
+        ShodBackwards x = new ShodBackwards();
+        Due.is("11 enclosed", Due.text(x, 1, "(1)"), 1);
+        Due.is("11 not enclosed", Due.text(x, 1, "(2"), -12);
+        Due.is("11 sum", Due.text(x, 1, "1+2"), 1);
+        Due.is("11 no sum", Due.text(x, 1, "4+"), -12);
+        Due.is("11 long number", Due.text(x, 1, "1234"), 1);
+        Due.is("11 short number", Due.text(x, 1, "5"), 1);
+        Due.is("11 short number", x.cellIs(0, 4), 5);
     }
 
     private static void depths() {
