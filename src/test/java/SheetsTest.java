@@ -29,30 +29,34 @@ public final class SheetsTest {
             Due.is("28 bits -8", x.sheet(0, -8, n), Due.BEYOND);
             Due.is("28 bits 0", x.sheet(0, 0, n), 1);
         }
-        int[] bits = {8, 16, 32};
-        for (int b : bits) {
-            Due.is("28 n -1", x.sheet(0, b, -1), Due.STATE);
-            Due.is("28 n least", x.sheet(0, b, Integer.MIN_VALUE), Due.STATE);
-            Due.is("28 n 25", x.sheet(0, b, 25), Due.BEYOND);
-            Due.is("28 n greatest", x.sheet(0, b, Integer.MAX_VALUE), Due.BEYOND);
-            Due.is("28 still missing", x.put(0, 0, 0), Due.NONE);
-            Due.is("28 none", x.sheet(0, b, 0), 1);
-            Due.is("28 no number", x.put(0, 0, 0), Due.BEYOND);
-            Due.is("28 all", x.sheet(0, b, 24), 1);
-            Due.is("28 number 23", x.put(0, 23, 9), 1);
-            Due.is("28 number 24", x.put(0, 24, 9), Due.BEYOND);
-            Due.is("28 unchanged", x.sheet(0, b, -1), Due.STATE);
-            Due.is("28 number 23", at(x, 0, b, 23), 9);
-            for (int i = 0; i < 24; i++) {
-                x.put(0, i, 9);
-            }
-            Due.is("28 anew", x.sheet(0, b, 24), 1);
-            for (int i = 0; i < 24; i++) {
-                Due.is("28 all 0", at(x, 0, b, i), 0);
-            }
-            Due.is("28 missing again", x.sheet(0, 0, 5), 1);
-            Due.is("28 missing", x.put(0, 0, 0), Due.NONE);
+        for (int b : new int[] {8, 16, 32}) {
+            sheetOf(b);
         }
+    }
+
+    private static void sheetOf(int b) {
+        ShodBackwards x = new ShodBackwards();
+        Due.is("28 n -1", x.sheet(0, b, -1), Due.STATE);
+        Due.is("28 n least", x.sheet(0, b, Integer.MIN_VALUE), Due.STATE);
+        Due.is("28 n 25", x.sheet(0, b, 25), Due.BEYOND);
+        Due.is("28 n greatest", x.sheet(0, b, Integer.MAX_VALUE), Due.BEYOND);
+        Due.is("28 still missing", x.put(0, 0, 0), Due.NONE);
+        Due.is("28 none", x.sheet(0, b, 0), 1);
+        Due.is("28 no number", x.put(0, 0, 0), Due.BEYOND);
+        Due.is("28 all", x.sheet(0, b, 24), 1);
+        Due.is("28 number 23", x.put(0, 23, 9), 1);
+        Due.is("28 number 24", x.put(0, 24, 9), Due.BEYOND);
+        Due.is("28 unchanged", x.sheet(0, b, -1), Due.STATE);
+        Due.is("28 number 23", at(x, 0, b, 23), 9);
+        for (int i = 0; i < 24; i++) {
+            x.put(0, i, 9);
+        }
+        Due.is("28 anew", x.sheet(0, b, 24), 1);
+        for (int i = 0; i < 24; i++) {
+            Due.is("28 all 0", at(x, 0, b, i), 0);
+        }
+        Due.is("28 missing again", x.sheet(0, 0, 5), 1);
+        Due.is("28 missing", x.put(0, 0, 0), Due.NONE);
     }
 
     private static void put() {
